@@ -1962,7 +1962,8 @@ public final class LipsAndSlides {
             if (resting[i] == 1) {
                 fewest = fewestFrom(i + 1, i + 1, i + 1, i + 1);
             } else {
-                for (int who = NONE; who < mostLeaving(); who++) {
+                // where nobody need leave one out, nothing better is to be sought
+                for (int who = NONE; who < mostLeaving() && fewest > 0; who++) {
                     fewest = Math.min(fewest, fewestWith(i, a, b, c, who));
                 }
             }
