@@ -79,6 +79,30 @@ final class Brute {
         return d;
     }
 
+    /** Long parts of short tones and players with little air, for doubles and breaths. */
+    static Brute randomAir(Random r) {
+        Brute d = random(r, 0);
+        d.horns.clear();
+        d.men.clear();
+        d.parts.clear();
+        d.horns.add(randomHorn(r));
+        for (int i = 0; i < 4; i++) {
+            Man m = new Man();
+            m.air = 2 + r.nextInt(9);
+            d.men.add(m);
+        }
+        List<Note> notes = new ArrayList<>();
+        for (int i = 0; i < 16; i++) {
+            Note t = new Note();
+            t.pitch = r.nextInt(16) == 0 ? -1 : r.nextInt(61);
+            t.beats = 1 + r.nextInt(2);
+            t.breath = t.pitch >= 0 && r.nextInt(3) > 0;
+            notes.add(t);
+        }
+        d.parts.add(notes);
+        return d;
+    }
+
     private static Horn randomHorn(Random r) {
         Horn h = new Horn();
         h.kind = r.nextInt(3);
@@ -513,6 +537,72 @@ final class Brute {
             }
         }
         return false;
+    }
+
+    /** The same for longer parts: only the beats since each one's last breath are borne in mind. */
+    int[] longOrder(int set, int part) {
+        List<Integer> who = new ArrayList<>();
+        for (int m = 0; m < men.size(); m++) {
+            if ((set >> m & 1) == 1) {
+                who.add(m);
+            }
+        }
+        java.util.Map<String, Integer> known = new java.util.HashMap<>();
+        int[] used = new int[who.size()];
+        int n = parts.get(part).size();
+        int[] row = new int[n];
+        int left = fewestFrom(part, who, 0, used, known);
+        if (left >= 99) {
+            return null;
+        }
+        for (int i = 0; i < n; i++) {
+            for (int k = -1; k < who.size(); k++) {
+                int[] then = after(part, who, i, used, k);
+                if (then != null && fewestFrom(part, who, i + 1, then, known) + (k < 0 ? 0 : 1) == left) {
+                    row[i] = k < 0 ? -1 : who.get(k);
+                    left -= k < 0 ? 0 : 1;
+                    used = then;
+                    break;
+                }
+            }
+        }
+        return row;
+    }
+
+    private int fewestFrom(int part, List<Integer> who, int i, int[] used, java.util.Map<String, Integer> known) {
+        if (i == parts.get(part).size()) {
+            return 0;
+        }
+        String key = i + java.util.Arrays.toString(used);
+        Integer had = known.get(key);
+        if (had != null) {
+            return had;
+        }
+        int fewest = 99;
+        for (int k = -1; k < who.size(); k++) {
+            int[] then = after(part, who, i, used, k);
+            if (then != null) {
+                fewest = Math.min(fewest, fewestFrom(part, who, i + 1, then, known) + (k < 0 ? 0 : 1));
+            }
+        }
+        known.put(key, fewest);
+        return fewest;
+    }
+
+    /** Beats of each behind tone i, if k leaves it out; null if it can't be. */
+    private int[] after(int part, List<Integer> who, int i, int[] used, int k) {
+        Note t = parts.get(part).get(i);
+        if (k >= 0 && (who.size() == 1 || t.rest())) {
+            return null;
+        }
+        int[] then = new int[used.length];
+        for (int m = 0; m < then.length; m++) {
+            then[m] = t.rest() || m == k ? 0 : used[m] + t.beats;
+            if (then[m] > men.get(who.get(m)).air) {
+                return null;
+            }
+        }
+        return then;
     }
 
     private boolean orderDoes(int part, List<Integer> who, int[] row, int end) {

@@ -37,6 +37,17 @@ public final class OracleTest {
                 System.out.println("seed " + seed + ": " + d.text());
             }
         }
+        for (int seed = 0; seed < 150 && CHECK.isClean(); seed++) {
+            Brute d = Brute.randomAir(new Random(seed));
+            LipsAndSlides x = Check.deskOf(d.text());
+            compareDoubles(x, d, 0);
+            for (int man = 0; man < d.men.size(); man++) {
+                int marks = d.marks(man, 0);
+                CHECK.due("marks", x.marks(man, 0), marks);
+                CHECK.due("breaths", x.breaths(man, 0), marks == -1 ? -1 : Integer.bitCount(marks));
+                CHECK.due("choked", x.choked(man, 0), d.choked(man, 0));
+            }
+        }
         // a comparison that never meets a play, or none, tells nothing
         CHECK.holds("some parts can be played, some can't, some tones are left out",
                 played > 100 && unplayed > 100 && left > 20);
@@ -311,7 +322,7 @@ public final class OracleTest {
 
     private static void compareDoubles(LipsAndSlides x, Brute d, int part) {
         int line = -1;
-        boolean few = d.parts.get(part).size() <= 8;
+        boolean few = d.parts.get(part).size() <= 6;
         for (int set = -1; set <= 1 << d.men.size(); set++) {
             boolean is = set > 0 && set < 1 << d.men.size() && Integer.bitCount(set) <= 3;
             if (!is) {
@@ -319,10 +330,10 @@ public final class OracleTest {
                 CHECK.due("leaves of no set", x.leaves(set, part, 0), -2);
                 continue;
             }
-            if (!few) {
-                continue;
+            int[] order = few ? d.order(set, part) : d.longOrder(set, part);
+            if (few && order != null) {
+                CHECK.holds("both orders are one", java.util.Arrays.equals(order, d.longOrder(set, part)));
             }
-            int[] order = d.order(set, part);
             int number = 0;
             for (int i = 0; order != null && i < order.length; i++) {
                 number += order[i] == -1 ? 0 : 1;
@@ -338,9 +349,7 @@ public final class OracleTest {
                 line = set;
             }
         }
-        if (few) {
-            CHECK.due("line", x.line(part), line);
-        }
+        CHECK.due("line", x.line(part), line);
     }
 
     private static void compareShared(LipsAndSlides x, Brute d) {

@@ -180,9 +180,19 @@ public final class PlaysTest {
         CHECK.due("P25 8 ^ 10", one(loose, 9, "tone 34 for 1;".repeat(10)).many(0, 0), -3);
         CHECK.due("P25 8 ^ 16", one(loose, 9, "tone 34 for 1;".repeat(16)).many(0, 0), -3);
         CHECK.due("P25 8 rows that stay", one(loose, 0, "tone 34 for 1;".repeat(16)).many(0, 0), 8);
+        justSoMany();
         LipsAndSlides x = one(loose, 9, "tone 34 for 1;".repeat(16));
         CHECK.due("P20 of so many the least", x.chosen(0, 0, 15, 2), 0);
         CHECK.due("P25 none", one(loose, 9, "tone 34 for 1;".repeat(15) + "tone 35 for 1;").many(0, 0), 0);
+    }
+
+    private static void justSoMany() {
+        // places are 0, 10, 20, 30, 41, 51, 61 flat: 34 has 5 ways, 38 (off -14) 4, 44 (off -31) 2
+        String begin = "desk cents 45 highest 8;slide base 10 long 999 step 6;player 0 quick 9 air 30 lips 999;part;"
+                + "tone 34 for 1;".repeat(9) + "tone 38 for 1;".repeat(2) + "tone 44 for 1;".repeat(4);
+        CHECK.due("P25 5 ^ 9 * 2 ^ 9", Check.deskOf(begin + "tone 44 for 1;").many(0, 0), 1000000000);
+        CHECK.due("P25 twice that", Check.deskOf(begin + "tone 38 for 1;").many(0, 0), -3);
+        CHECK.due("P25 half of that", Check.deskOf(begin).many(0, 0), 500000000);
     }
 
     private static void moved() {

@@ -153,6 +153,8 @@ public final class TapeTest {
         faultBehind("part", 1, 4);
         faultBehind("part 5;", 1, 5);
         faultBehind("parts;", 1, 0);
+        faultBehind("partz;", 1, 0);
+        faultBehind("aparts;", 1, 0);
         faultBehind("tuba base 1 long 100;", 1, 0);
         faultBehind("\tpart;", 1, 0);
         faultBehind("part;\r", 1, 5);
@@ -260,8 +262,9 @@ public final class TapeTest {
     }
 
     private static void brass() {
-        LipsAndSlides x = Check.deskOf(FIRST + "bugle base 40 long 999;slide base 3 long 600 step 37;"
-                + "horn base 10 long 500 valves 61 30 95 draws 20;");
+        String text = FIRST + "bugle base 40 long 999;slide base 3 long 600 step 37;"
+                + "horn base 10 long 500 valves 61 30 95 draws 20;";
+        LipsAndSlides x = Check.deskOf(text);
         int[][] want = {{0, 40, 999, 0, 0, 0, 0}, {2, 3, 600, 37, 0, 0, 0}, {1, 10, 500, 61, 30, 95, 20}};
         for (int b = 0; b < 3; b++) {
             for (int what = 0; what < 7; what++) {
@@ -273,11 +276,16 @@ public final class TapeTest {
         CHECK.due("P6 no such what", x.brass(0, 7), -2);
         CHECK.due("P6 what below 0", x.brass(0, -1), -2);
         CHECK.due("P6 far what", x.brass(Integer.MAX_VALUE, Integer.MIN_VALUE), -2);
-        // rows are used again for a new desk: nothing of the horn may be left in the bugle
-        Check.feedText(x, FIRST + "bugle base 1 long 100;bugle base 1 long 100;bugle base 1 long 100;");
+        // rows may be used again for a new desk, but nothing of the horn may be left in the bugle
+        Check.feedText(x, text);
         x.desk();
-        CHECK.due("P6 no valve left", x.brass(2, 3), 0);
-        CHECK.due("P6 no draws left", x.brass(2, 6), 0);
+        for (int n = 0; n < 2; n++) {
+            Check.feedText(x, FIRST + "bugle base 1 long 100;bugle base 1 long 100;bugle base 1 long 100;");
+            x.desk();
+            for (int what = 3; what < 7; what++) {
+                CHECK.due("P6 nothing left", x.brass(2, what), 0);
+            }
+        }
     }
 
     private static void player() {
