@@ -60,6 +60,7 @@ public final class EdgesTest {
         rows();
         writes();
         pastes();
+        askedAgain();
         CHECK.finish();
     }
 
@@ -160,7 +161,9 @@ public final class EdgesTest {
         CHECK.due("P4 the TAPE is empty then", x.count(6), 0);
         CHECK.due("P4 an empty TAPE: 0", x.desk(), 0);
         CHECK.due("P4 there is none then", x.shared(), -2);
-        CHECK.due("P4 no BRASS", x.count(2), 0);
+        for (int what = 0; what < 6; what++) {
+            CHECK.due("P4 nothing of it, " + what, x.count(what), 0);
+        }
         CHECK.due("P4 no FAULT", x.fault(0), 0);
         Check.feedText(x, FIRST);
         CHECK.due("P4 the least DESK", x.desk(), 1);
@@ -170,6 +173,37 @@ public final class EdgesTest {
         Check.feedText(x, " ");
         CHECK.due("P4 a blank alone: 0", x.desk(), 0);
         CHECK.due("P4 there is none", x.shared(), -2);
+        nothingIsLeft();
+    }
+
+    private static void nothingIsLeft() {
+        // more than two desks one after another: nothing of any older one shows through
+        String[] older = {HORN.repeat(4) + man(3, 9, 30, 999).repeat(9) + ("part;" + "tone 60 for 9 slurred breath;".repeat(16)).repeat(3),
+            BUGLE + man(0, 1, 1, 1) + "part;tone 1 for 1 slurred breath;"};
+        LipsAndSlides x = new LipsAndSlides();
+        for (int n = 0; n < 6; n++) {
+            Check.feedText(x, FIRST + older[n % 2]);
+            x.desk();
+            Check.feedText(x, FIRST + BUGLE + "part;rest 1;tone 1 for 1;part;");
+            CHECK.due("P4 in place of another", x.desk(), 6);
+            int[] want = {20, 8, 1, 0, 2, 6};
+            for (int what = 0; what < 6; what++) {
+                CHECK.due("P4 its own, " + what, x.count(what), want[what]);
+            }
+            for (int what = 3; what < 7; what++) {
+                CHECK.due("P6 no valves nor draws of an older one", x.brass(0, what), 0);
+            }
+            for (int i = 0; i < 2; i++) {
+                CHECK.due("P8 not slurred", x.tone(0, i, 2), 0);
+                CHECK.due("P8 no breath", x.tone(0, i, 3), 0);
+            }
+            CHECK.due("P55 two TONES", x.tones(0), 2);
+            CHECK.due("P55 no TONES", x.tones(1), 0);
+            CHECK.due("P4 none", x.desk(), 0);
+            for (int what = 0; what < 6; what++) {
+                CHECK.due("P4 nothing of any, " + what, x.count(what), 0);
+            }
+        }
     }
 
     private static void fault() {
@@ -305,6 +339,14 @@ public final class EdgesTest {
             CHECK.due("P13 no such BRASS, of " + k, x.way(2, 34, k, 0), -2);
             CHECK.due("P13 no such PITCH, of " + k, x.way(1, 61, k, 0), -2);
         }
+        for (int highest = 2; highest <= 12; highest++) {
+            // by the highest partial alone, and by none if it is one lower
+            int[] pitch = {22, 29, 34, 38, 41, 44, 46, 48, 50, 51, 53};
+            LipsAndSlides z = Check.deskOf("desk cents 60 highest " + highest + ";" + BUGLE);
+            CHECK.due("P12 by the highest partial", z.ways(0, pitch[highest - 2]), 1);
+            CHECK.due("P13 the highest partial", z.way(0, pitch[highest - 2], 0, 0), highest);
+            CHECK.due("P12 above the highest partial", highest < 12 ? z.ways(0, pitch[highest - 1]) : 0, 0);
+        }
         CHECK.due("P13 far", x.way(1, 34, FAR, 0), -1);
         CHECK.due("P13 far below", x.way(1, 34, FAR_BELOW, 0), -1);
         // as many WAYS as may be: all partials of all SETTINGS can't be of one PITCH, but those of all valves can
@@ -329,6 +371,11 @@ public final class EdgesTest {
         for (int brass : new int[] {-1, 3, 4, FAR, FAR_BELOW}) {
             CHECK.due("P14 BRASS " + brass, x.range(brass, 0), -2);
         }
+        // 0 has a WAY (1199 flat), and -1 would have one (1298 flat) if it were a PITCH; as 61 by 2 of 49 would
+        LipsAndSlides z = Check.deskOf("desk cents 60 highest 2;horn base 0 long 100 valves 106 0 120 draws 0;");
+        CHECK.due("P14 least of a deep one", z.range(0, 0), 0);
+        CHECK.due("P14 greatest of a deep one", z.range(0, 1), 12);
+        CHECK.due("P14 between 0 and 12 all", z.range(0, 2), 11);
         // every base up to 40 has partial 2 within 0 .. 60, off 0: so a BRASS always has a PITCH
         for (int base = 0; base <= 40; base++) {
             LipsAndSlides y = Check.deskOf("desk cents 1 highest 2;bugle base " + base + " long 999;");
@@ -348,13 +395,26 @@ public final class EdgesTest {
             CHECK.due("P15 first " + other, x.common(other, 0), -2);
             CHECK.due("P15 both " + other, x.common(other, other), -2);
         }
-        // all of 0 .. 60 that a short horn with three long valves has
+        edgesInCommon();
+        // all that one has, if the other is the same
         LipsAndSlides y = Check.deskOf("desk cents 60 highest 12;" + "slide base 10 long 300 step 19;".repeat(2));
         int have = 0;
         for (int pitch = 0; pitch <= 60; pitch++) {
             have += y.ways(0, pitch) > 0 ? 1 : 0;
         }
         CHECK.due("P15 all that each has", y.common(0, 1), have);
+    }
+
+    private static void edgesInCommon() {
+        // 0 and 12 alone, -1 is no PITCH; then 60 alone, 61 (partial 2 of 49) is none
+        String deep = "horn base 0 long 100 valves 106 0 120 draws 0;";
+        LipsAndSlides x = Check.deskOf("desk cents 60 highest 2;" + deep + deep + "bugle base 0 long 500;");
+        CHECK.due("P15 0 and 12", x.common(0, 1), 2);
+        CHECK.due("P15 12", x.common(0, 2), 1);
+        LipsAndSlides y = Check.deskOf("desk cents 1 highest 4;bugle base 36 long 500;bugle base 36 long 500;");
+        CHECK.due("P15 48 and 60", y.common(0, 1), 2);
+        LipsAndSlides z = Check.deskOf("desk cents 20 highest 5;bugle base 33 long 500;bugle base 33 long 500;");
+        CHECK.due("P15 45, 52, 57, but not 61", z.common(0, 1), 3);
     }
 
     private static void move() {
@@ -522,6 +582,7 @@ public final class EdgesTest {
                 1000000000);
         CHECK.due("P25 the other way round",
                 Check.deskOf(begin + "tone 44 for 1;".repeat(5) + nine + "tone 38 for 1;".repeat(2)).many(0, 0), 1000000000);
+        justAbove();
         // 7 ^ 10 is 282,475,249, 7 ^ 11 is above
         String seven = "desk cents 20 highest 4;" + SLACK_SLIDE + man(0, 9, 30, 999) + "part;";
         CHECK.due("P25 7 ^ 10", Check.deskOf(seven + "tone 34 for 1;".repeat(10)).many(0, 0), 282475249);
@@ -530,6 +591,32 @@ public final class EdgesTest {
         // ever so many, but none to the end: 0, not -3
         CHECK.due("P25 none in the end", Check.deskOf(seven + "tone 34 for 1;".repeat(15) + "tone 23 for 1;").many(0, 0), 0);
         CHECK.due("P25 none at first", Check.deskOf(seven + "tone 23 for 1;" + "tone 34 for 1;".repeat(15)).many(0, 0), 0);
+    }
+
+    private static void justAbove() {
+        // of seven places that are all WAYS, by quick 1 and so many beats from TONE to TONE: found by search
+        int[] beats = {2, 2, 4, 3, 1, 5, 4, 4, 5, 5, 6, 1};
+        StringBuilder text = new StringBuilder(FIRST + SLACK_SLIDE + man(0, 1, 30, 999) + "part;");
+        long[] by = {1, 1, 1, 1, 1, 1, 1};
+        for (int n = 0; n < beats.length; n++) {
+            text.append("tone 34 for ").append(beats[n]).append(';');
+            long[] next = new long[7];
+            for (int a = 0; a < 7; a++) {
+                for (int b = 0; b < 7; b++) {
+                    next[b] += n + 1 < beats.length && Math.abs(a - b) <= beats[n] ? by[a] : 0;
+                }
+            }
+            by = n + 1 < beats.length ? next : by;
+        }
+        CHECK.due("P25 by hand", java.util.Arrays.stream(by).sum(), 1000000001L);
+        CHECK.due("P25 1,000,000,001", Check.deskOf(text.toString()).many(0, 0), -3);
+        CHECK.due("P25 one TONE less", Check.deskOf(text.toString().replace("tone 34 for 6;", "")).many(0, 0) > 0 ? 1 : 0, 1);
+        // behind a first TONE of one WAY (33 in place 6): 5 ^ 9 * 2 ^ 9 again, and twice that
+        String one = "desk cents 45 highest 8;slide base 10 long 999 step 6;" + man(0, 9, 30, 999) + "part;tone 33 for 1;"
+                + "tone 34 for 1;".repeat(9) + "tone 38 for 1;".repeat(4);
+        CHECK.due("P25 1,000,000,000 behind one WAY", Check.deskOf(one + "tone 44 for 1;").many(0, 0), 1000000000);
+        CHECK.due("P25 2,000,000,000 behind one WAY", Check.deskOf(one + "tone 38 for 1;").many(0, 0), -3);
+        CHECK.due("P25 and a last of one WAY", Check.deskOf(one + "tone 44 for 1;tone 33 for 1;").many(0, 0), 1000000000);
     }
 
     private static void movedAndPut() {
@@ -550,6 +637,10 @@ public final class EdgesTest {
         CHECK.due("P26 all", y.moved(0, 0), 16);
         CHECK.due("P27 the last but one", y.put(0, 0, 14), -12);
         CHECK.due("P27 the last", y.put(0, 0, 15), 12);
+        // hands that move are no TONES that are moved
+        LipsAndSlides z = one(HORN, 9, "tone 34 for 1;tone 33 for 1;tone 31 for 1;");
+        CHECK.due("P26 hands move, TONES do not", z.moved(0, 0), 0);
+        CHECK.due("P27 so they stay", z.put(0, 0, 2), 0);
         CHECK.due("P26 two octaves", one("bugle base 34 long 500;", 0, "tone 22 for 1;").moved(0, 0), -1);
     }
 
@@ -1182,6 +1273,39 @@ public final class EdgesTest {
             CHECK.due("P60 of another WIDTH", x.row(2, (width + 1) % 4, 4), 0);
             CHECK.due("P60 not of one WIDTH", x.paste(0, 0, 2, 0, 1), -8);
         }
+    }
+
+    /** One object, asked of one thing after another: what was found for one does not show in the next. */
+    private static void askedAgain() {
+        LipsAndSlides x = Check.deskOf(FIRST + HORN + man(0, 9, 4, 999) + man(0, 9, 4, 999) + "part;" + "tone 34 for 4 breath;".repeat(8)
+                + "part;tone 34 for 1;tone 33 for 1;part;tone 34 for 1;rest 9;tone 34 for 4;");
+        CHECK.due("P29 seven", x.breaths(0, 0), 7);
+        CHECK.due("P30 seven bits", x.marks(0, 0), 127);
+        CHECK.due("P30 none then", x.marks(0, 1), 0);
+        CHECK.due("P29 none then", x.breaths(0, 1), 0);
+        CHECK.due("P35 all", x.doubles(3, 0), 8);
+        CHECK.due("P35 none then", x.doubles(3, 1), 0);
+        CHECK.due("P36 nobody then", x.leaves(3, 1, 1), -1);
+        CHECK.due("P35 rests then", x.doubles(3, 2), 0);
+        CHECK.due("P22 one can", x.stuck(0, 1), -1);
+        CHECK.due("P28 no shift", x.shift(0, 1), 0);
+        x.train(0, 1, 0);
+        CHECK.due("P22 one can't any more", x.stuck(0, 1), 1);
+        CHECK.due("P22 the other can", x.stuck(1, 1), -1);
+        CHECK.due("P22 the first can't still", x.stuck(0, 1), 1);
+        CHECK.due("P17 nor plays", x.plays(0, 1), 0);
+        CHECK.due("P28 by no shift", x.shift(0, 1), -100);
+        CHECK.due("P26 nor moved", x.moved(0, 1), -1);
+        x.train(0, 1, 1);
+        CHECK.due("P22 one can again", x.stuck(0, 1), -1);
+        // a crack is of the seed asked for, not of one asked before
+        LipsAndSlides y = one(BUGLE, 0, "tone 34 for 1;");
+        CHECK.due("P45 none from 1", y.cracked(1, 0, 0), -1);
+        CHECK.due("P45 the first from 0", y.cracked(0, 0, 0), 0);
+        CHECK.due("P44 none from 1", y.cracks(1, 0, 0), 0);
+        CHECK.due("P45 the first from 0 again", y.cracked(0, 0, 0), 0);
+        CHECK.due("P46 none of one", y.clean(0, 1, 0, 0), 0);
+        CHECK.due("P45 none from 1 again", y.cracked(1, 0, 0), -1);
     }
 
     private static void rowIs(LipsAndSlides x, int slot, int width, int... want) {

@@ -3,7 +3,8 @@ import java.util.Random;
 
 /**
  * Calls at random, with any arguments in any state: none may throw, the same calls answer the same,
- * calls that only ask change nothing, and what an object makes after its constructor is counted.
+ * calls that only ask change nothing and are not changed by what was asked before, and what an object
+ * makes after its constructor is counted.
  */
 public final class FuzzTest {
     private static final Check CHECK = new Check("FuzzTest");
@@ -15,6 +16,7 @@ public final class FuzzTest {
     public static void main(String[] args) {
         anyCalls();
         asksChangeNothing();
+        asksLeaveNothing();
         makesNothing();
         CHECK.finish();
     }
@@ -98,6 +100,34 @@ public final class FuzzTest {
             Check.rowOf(x, 0, 1, 0, 1, 0, 1, 2, 0);
             long first = asked(x);
             CHECK.due("asked once more", asked(x), first);
+        }
+    }
+
+    /** One object has one desk after another and is asked; a new one, asked this alone, answers the same. */
+    private static void asksLeaveNothing() {
+        for (int seed = 0; seed < 60; seed++) {
+            Random r = new Random(seed);
+            LipsAndSlides x = new LipsAndSlides();
+            for (int n = 0; n < 5; n++) {
+                String text = Brute.random(r, r.nextInt(3) == 0 ? 16 : 5).text();
+                if (text.length() > 1980) {
+                    continue;
+                }
+                Check.feedText(x, text);
+                x.desk();
+                long[] numbers = {r.nextInt(3), r.nextInt(3), r.nextInt(3), r.nextInt(3), 34, 0};
+                Check.rowOf(x, 0, 3, numbers);
+                for (int k = 0; k < 40; k++) {
+                    int method = 3 + r.nextInt(METHODS - 3);
+                    int[] a = {r.nextInt(4), r.nextInt(3), r.nextInt(4), r.nextInt(3), 0};
+                    if (changes(method) || method == 53) {
+                        continue;
+                    }
+                    LipsAndSlides fresh = Check.deskOf(text);
+                    Check.rowOf(fresh, 0, 3, numbers);
+                    CHECK.due("method " + method + " of a new object", call(x, method, a), call(fresh, method, a));
+                }
+            }
         }
     }
 

@@ -10,6 +10,7 @@ public final class TermsTest {
     public static void main(String[] args) {
         numbersOfTheText();
         wordsOfTheText();
+        wordsLetterByLetter();
         tokens();
         tooMany();
         firstFault();
@@ -121,6 +122,37 @@ public final class TermsTest {
 
     private static void faulty(String ahead, String begin, int kind, int place, String line) {
         faulty(ahead + begin + line, kind, begin.length() + place);
+    }
+
+    /** A word with another letter, with one letter less or one more is another word. */
+    private static void wordsLetterByLetter() {
+        String text = FIRST + BUGLE + "horn base 10 long 500 valves 61 30 95 draws 20;" + SLACK_SLIDE + MAN
+                + "part;tone 1 for 1 slurred breath;rest 1;";
+        int lines = 8;
+        CHECK.due("I all words", read(text), lines);
+        java.util.regex.Matcher word = java.util.regex.Pattern.compile("[a-z]+").matcher(text);
+        while (word.find()) {
+            for (int at = word.start(); at < word.end(); at++) {
+                char other = text.charAt(at) == 'a' ? 'z' : 'a';
+                faulty(text.substring(0, at) + other + text.substring(at + 1), 1, word.start());
+                faulty(text.substring(0, at) + text.substring(at + 1), 1, word.start());
+                faulty(text.substring(0, at) + "z" + text.substring(at), 1, word.start());
+            }
+            faulty(text.substring(0, word.end()) + "a" + text.substring(word.end()), 1, word.start());
+            boolean needed = !word.group().equals("slurred") && !word.group().equals("breath");
+            if (needed) {
+                faulty(text.substring(0, word.start()) + text.substring(word.end()), 1, nextToken(text, word.start(), word.end()));
+            }
+        }
+    }
+
+    /** Where the token behind a word stands, once the word itself is cut out. */
+    private static int nextToken(String text, int begin, int end) {
+        int at = end;
+        while (text.charAt(at) == ' ') {
+            at++;
+        }
+        return at - (end - begin);
     }
 
     private static void tokens() {
@@ -419,10 +451,38 @@ public final class TermsTest {
         for (int i = 0; i < 16; i++) {
             CHECK.due("III the least row, " + i, y.chosen(0, 0, i, 2), 0);
         }
-        // places 0 and 6 are one apart from nothing alike: (0, 1) and (1, 0) cost the same
-        LipsAndSlides z = one(SLACK_SLIDE, 9, "tone 34 for 1 slurred;tone 38 for 1;");
-        CHECK.due("III COST 0", z.cost(0, 0), 0);
-        CHECK.due("III rows of rests alone", one(BUGLE, 0, "rest 1;").cost(0, 0), 0);
+        CHECK.due("III a PART of rests alone", one(BUGLE, 0, "rest 1;").cost(0, 0), 0);
+        bestRows();
+    }
+
+    private static void bestIs(String part, int cost, int sour, int... ways) {
+        // places are 0, 10, 20, 30, 41, 51, 61 flat: 34 is in places 0 .. 4, 51 in 1 .. 6, 33 in 6 alone
+        LipsAndSlides x = Check.deskOf("desk cents 45 highest 12;slide base 10 long 999 step 6;player 0 quick 9 air 30 lips 999;part;"
+                + part);
+        CHECK.due("III COST of " + part, x.cost(0, 0), cost);
+        CHECK.due("III cents of " + part, x.sour(0, 0), sour);
+        int next = 0;
+        for (int i = 0; i < x.tones(0); i++) {
+            boolean rest = x.tone(0, i, 0) == -1;
+            CHECK.due("III WAY of TONE " + i + " of " + part, x.chosen(0, 0, i, 2), rest ? -1 : ways[next]);
+            next += rest ? 0 : 1;
+        }
+    }
+
+    private static void bestRows() {
+        String a = "tone 34 for 1;";
+        String b = "tone 33 for 1;";
+        String c = "tone 51 for 1;";
+        bestIs(c, 0, 0, 4);
+        bestIs(b + a + b, 4, 119, 0, 4, 0);
+        bestIs(a + a + b, 2, 121, 4, 4, 0);
+        bestIs(a + a + "rest 1;" + b + a + a, 4, 203, 4, 4, 0, 4, 4);
+        bestIs(c + b, 0, 49, 5, 0);
+        // in places 1, 2, 3 and 4 the two are off by 51 together: the least row of WAYS
+        bestIs(a + c, 0, 51, 1, 0);
+        bestIs(c + a, 0, 51, 0, 1);
+        bestIs(c + a + c + a, 0, 102, 0, 1, 0, 1);
+        bestIs(a + c + "rest 2;" + a + c, 0, 102, 1, 0, 1, 0);
     }
 
     private static void movedWithinPitches() {
@@ -493,6 +553,9 @@ public final class TermsTest {
         // at a mark one may breathe: behind the TONE, not ahead of it
         CHECK.due("IV a mark behind the first", breather(9, "tone 34 for 9 breath;" + nine).marks(0, 0), 1);
         CHECK.due("IV a mark behind the last", breather(9, nine + "tone 34 for 9 breath;").marks(0, 0), -1);
+        // rests behind one another take no air, be they longer than it
+        CHECK.due("IV long rests", breather(1, "rest 9;rest 9;tone 34 for 1;rest 9;rest 9;tone 34 for 1;rest 9;rest 1;").breaths(0, 0), 0);
+        CHECK.due("IV long rests, choked", breather(1, "rest 9;rest 9;tone 34 for 1;rest 9;rest 9;tone 34 for 2;").choked(0, 0), 5);
     }
 
     private static void lips() {
@@ -551,9 +614,43 @@ public final class TermsTest {
         CHECK.due("IV a rest", group("tone 34 for 4;rest 1;tone 34 for 4;", 4, 4).doubles(3, 0), 0);
         // hands and lips aside: nobody has a WAY of 23, nor lips
         CHECK.due("IV no WAY", group("tone 23 for 4;", 4).doubles(1, 0), 0);
+        eachOfThree();
         CHECK.due("IV all of 16 by turns", group("tone 34 for 1;".repeat(16), 1, 1).doubles(3, 0), 16);
         CHECK.due("IV by turns, 0 first", group("tone 34 for 1;".repeat(16), 1, 1).leaves(3, 0, 14), 0);
         CHECK.due("IV by turns, 1 last", group("tone 34 for 1;".repeat(16), 1, 1).leaves(3, 0, 15), 1);
+    }
+
+    private static void eachOfThree() {
+        // one of three has air 2: he plays two, leaves one out, plays two; behind a rest it begins anew
+        int[] want = {-1, -1, 1, -1, -1, 1, -1, -1, -1, 1, -1, -1, 1};
+        String six = "tone 34 for 1;".repeat(6);
+        for (int who = 0; who < 3; who++) {
+            int[] airs = {30, 30, 30};
+            airs[who] = 2;
+            LipsAndSlides x = group(six + "rest 1;" + six, airs);
+            CHECK.due("IV one of three has to leave out", x.doubles(7, 0), 4);
+            for (int i = 0; i < want.length; i++) {
+                CHECK.due("IV " + who + " leaves out " + i, x.leaves(7, 0, i), want[i] == 1 ? who : -1);
+            }
+            // what he played ahead of the rest does not count behind it: he leaves out the last of three, not the first
+            LipsAndSlides z = group("tone 34 for 1;".repeat(5) + "rest 1;" + "tone 34 for 1;".repeat(3), airs);
+            for (int i = 0; i < 9; i++) {
+                CHECK.due("IV " + who + " leaves out " + i + " of 9", z.leaves(7, 0, i), i == 2 || i == 8 ? who : -1);
+            }
+            // a TONE behind a rest that is too long for him
+            LipsAndSlides y = group("tone 34 for 2;rest 1;tone 34 for 3;", airs);
+            CHECK.due("IV " + who + " leaves out the last", y.leaves(7, 0, 2), who);
+            CHECK.due("IV but not the first", y.leaves(7, 0, 0), -1);
+            CHECK.due("IV nor the rest", y.leaves(7, 0, 1), -1);
+            CHECK.due("IV one alone", y.doubles(1 << who, 0), -1);
+            CHECK.due("IV one with another", y.doubles(1 << who | 1 << (who + 1) % 3, 0), 1);
+        }
+        // nobody, 0, 1, 2: all three have to breathe within three beats behind the first two
+        LipsAndSlides z = group("tone 34 for 1;".repeat(7), 4, 4, 4);
+        int[] order = {-1, -1, 0, 1, 2, -1, -1};
+        for (int i = 0; i < order.length; i++) {
+            CHECK.due("IV the first order, " + i, z.leaves(7, 0, i), order[i]);
+        }
     }
 
     // ---- V
