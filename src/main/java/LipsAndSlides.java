@@ -613,7 +613,8 @@ public final class LipsAndSlides {
         if (!now.hasPart(part)) {
             return ABSENT;
         }
-        for (int size = 1; size <= MOST_DOUBLES; size++) {
+        // of three who can, any two can as well: what the third one leaves out they play both
+        for (int size = 1; size <= 2; size++) {
             int set = leastLine(part, size);
             if (set != NONE) {
                 return set;
