@@ -6,31 +6,48 @@ import java.lang.reflect.Modifier;
 import java.nio.charset.StandardCharsets;
 import java.nio.file.Files;
 import java.nio.file.Path;
+import java.util.ArrayList;
+import java.util.List;
 import java.util.Set;
 import java.util.TreeSet;
+import java.util.regex.Matcher;
+import java.util.regex.Pattern;
 
 /** The public face is the document's and no more, and the source keeps to the rules that can be looked for. */
 public final class FaceTest {
     private static final Check CHECK = new Check("FaceTest");
-    private static final String FACE = "feed/5 end/1 desk/0 fault/1 brass/2 player/2 tone/3 flat/2 off/4 drawnOut/4 ways/2 way/4 "
-            + "range/2 common/2 move/3 plays/2 cost/2 sour/2 chosen/4 slurs/3 stuck/2 quick/2 cents/2 many/2 moved/2 put/3 "
-            + "shift/2 breaths/2 marks/2 choked/2 load/3 tired/2 spared/2 doubles/2 leaves/3 line/1 best/1 shared/0 given/1 "
-            + "judge/3 told/3 heard/1 cracks/3 cracked/3 clean/4 train/3 tune/2 pitch/3 slur/3 beats/1 phrase/2 pitches/1 "
-            + "count/1 tones/1 keep/1 back/1 row/3 write/3 paste/5";
+    private static final Path DOCUMENT = Path.of("../shared/DOC.md");
+    // the document's lines of methods, without the names of their parameters
+    private static final Set<String> FACE = new TreeSet<>();
 
     public static void main(String[] args) throws IOException {
+        readFace();
         members();
         nested();
         source();
         CHECK.finish();
     }
 
-    private static Set<String> faceNames() {
-        Set<String> names = new TreeSet<>();
-        for (String entry : FACE.split(" ")) {
-            names.add(entry.substring(0, entry.indexOf('/')));
+    private static void readFace() throws IOException {
+        String text = Files.readString(DOCUMENT, StandardCharsets.UTF_8);
+        Matcher method = Pattern.compile("(?m)^    public (int \\w+)\\((.*)\\);$").matcher(text);
+        while (method.find()) {
+            FACE.add(method.group(1) + "(" + method.group(2).replaceAll(" \\w+(?=,|$)", "") + ")");
         }
-        return names;
+        // of 60 promises one is the constructor's
+        CHECK.due("methods of the document", FACE.size(), 59);
+    }
+
+    private static String lineOf(Method m) {
+        List<String> types = new ArrayList<>();
+        for (Class<?> type : m.getParameterTypes()) {
+            types.add(type.getName());
+        }
+        return m.getReturnType().getName() + " " + m.getName() + "(" + String.join(", ", types) + ")";
+    }
+
+    private static boolean isOfTheFace(String name) {
+        return FACE.stream().anyMatch(line -> line.startsWith("int " + name + "("));
     }
 
     private static void members() {
@@ -41,19 +58,15 @@ public final class FaceTest {
             if (m.isSynthetic()) {
                 continue;
             }
-            if (!Modifier.isPrivate(m.getModifiers())) {
-                found.add(m.getName() + "/" + m.getParameterCount());
-                CHECK.holds(m.getName() + " is public, of an int", Modifier.isPublic(m.getModifiers())
-                        && !Modifier.isStatic(m.getModifiers()) && m.getReturnType() == int.class);
-                for (int i = 0; i < m.getParameterCount(); i++) {
-                    boolean wide = m.getName().equals("write") && i == 2;
-                    CHECK.holds(m.getName() + " parameter " + i, m.getParameterTypes()[i] == (wide ? long.class : int.class));
-                }
+            if (Modifier.isPrivate(m.getModifiers())) {
+                CHECK.holds("private " + m.getName() + " is not of the face", !isOfTheFace(m.getName()));
             } else {
-                CHECK.holds("private " + m.getName() + " is not of the face", !faceNames().contains(m.getName()));
+                found.add(lineOf(m));
+                CHECK.holds(m.getName() + " is public, of an object", Modifier.isPublic(m.getModifiers())
+                        && !Modifier.isStatic(m.getModifiers()));
             }
         }
-        CHECK.holds("the methods are the document's", found.equals(new TreeSet<>(Set.of(FACE.split(" ")))));
+        CHECK.holds("the methods are the document's: " + found, found.equals(FACE));
         for (Field f : c.getDeclaredFields()) {
             boolean none = f.getName().equals("NONE");
             CHECK.holds("field " + f.getName(), none ? Modifier.isPublic(f.getModifiers()) : Modifier.isPrivate(f.getModifiers()));
@@ -85,7 +98,7 @@ public final class FaceTest {
             }
             CHECK.holds(c.getName() + " has some twenty fields", fields <= 20);
             for (Method m : c.getDeclaredMethods()) {
-                CHECK.holds(c.getName() + "." + m.getName() + " is not of the face", !faceNames().contains(m.getName()));
+                CHECK.holds(c.getName() + "." + m.getName() + " is not of the face", !isOfTheFace(m.getName()));
                 CHECK.holds(c.getName() + "." + m.getName() + " takes seven at most", m.getParameterCount() <= 7);
             }
         }
@@ -99,8 +112,8 @@ public final class FaceTest {
             "transient", "finally", "abstract", "protected", "double", "float", "Exact", "Random", "Thread", "Object", "null",
             "nanoTime", "currentTimeMillis", "hashCode", "toString", "instanceof", "static {"};
         for (String word : forbidden) {
-            String pattern = word.endsWith("{") || word.equals("Exact") ? java.util.regex.Pattern.quote(word) : "\\b" + word + "\\b";
-            CHECK.holds("no " + word, !java.util.regex.Pattern.compile(pattern).matcher(code).find());
+            String pattern = word.endsWith("{") || word.equals("Exact") ? Pattern.quote(word) : "\\b" + word + "\\b";
+            CHECK.holds("no " + word, !Pattern.compile(pattern).matcher(code).find());
         }
         CHECK.holds("no lambda or method reference", !code.contains("->") && !code.contains("::"));
         for (int i = 0; i < text.length(); i++) {
@@ -108,7 +121,7 @@ public final class FaceTest {
                 CHECK.holds("a sign outside 32 .. 126 at " + i, false);
             }
         }
-        java.util.regex.Matcher library = java.util.regex.Pattern.compile("\\b(System|Arrays|Math|Integer|Long)\\.(\\w+)")
+        Matcher library = Pattern.compile("\\b(System|Arrays|Math|Integer|Long)\\.(\\w+)")
                 .matcher(code);
         Set<String> allowed = Set.of("System.arraycopy", "Math.max", "Math.min", "Math.abs", "Integer.bitCount", "Long.bitCount");
         while (library.find()) {

@@ -10,6 +10,7 @@ public final class OracleTest {
     private static int played;
     private static int unplayed;
     private static int left;
+    private static int playedChanged;
 
     public static void main(String[] args) {
         for (int seed = 0; seed < DESKS && CHECK.isClean(); seed++) {
@@ -19,20 +20,16 @@ public final class OracleTest {
                 continue;
             }
             LipsAndSlides x = Check.deskOf(d.text());
-            compareDesk(x, d);
-            compareWays(x, d, r);
-            for (int man = 0; man < d.men.size(); man++) {
-                for (int part = 0; part < d.parts.size(); part++) {
-                    comparePlays(x, d, man, part);
-                    compareOthers(x, d, man, part);
-                    compareJudged(x, d, man, part, r);
-                }
+            compareAll(x, d, r);
+            x.keep(seed % 3);
+            for (int n = 0; n < 12; n++) {
+                change(x, d, r);
             }
-            for (int part = 0; part < d.parts.size(); part++) {
-                compareDoubles(x, d, part);
-            }
-            compareShared(x, d);
-            compareHeard(x, d, r);
+            int before = played;
+            compareAll(x, d, r);
+            playedChanged += played - before;
+            x.back(seed % 3);
+            compareDesk(x, Brute.random(new Random(seed), seed % 10 == 0 ? 16 : 6));
             if (!CHECK.isClean()) {
                 System.out.println("seed " + seed + ": " + d.text());
             }
@@ -49,9 +46,62 @@ public final class OracleTest {
             }
         }
         // a comparison that never meets a play, or none, tells nothing
-        CHECK.holds("some parts can be played, some can't, some tones are left out",
-                played > 100 && unplayed > 100 && left > 20);
+        CHECK.holds("some parts can be played, changed ones too, some can't, some tones are left out",
+                played > 100 && playedChanged > 100 && unplayed > 100 && left > 20);
         CHECK.finish();
+    }
+
+    private static void compareAll(LipsAndSlides x, Brute d, Random r) {
+        compareDesk(x, d);
+        compareWays(x, d, r);
+        for (int man = 0; man < d.men.size(); man++) {
+            for (int part = 0; part < d.parts.size(); part++) {
+                comparePlays(x, d, man, part);
+                compareOthers(x, d, man, part);
+                compareJudged(x, d, man, part, r);
+            }
+        }
+        for (int part = 0; part < d.parts.size(); part++) {
+            compareDoubles(x, d, part);
+        }
+        compareShared(x, d);
+        compareHeard(x, d, r);
+    }
+
+    /** Promises 47 to 50: the same change of both, small enough that parts can be played still. */
+    private static void change(LipsAndSlides x, Brute d, Random r) {
+        if (r.nextBoolean() && !d.parts.isEmpty()) {
+            int part = r.nextInt(d.parts.size());
+            int i = r.nextInt(17);
+            boolean is = i < d.parts.get(part).size() && !d.parts.get(part).get(i).rest();
+            Brute.Note t = is ? d.parts.get(part).get(i) : new Brute.Note();
+            int other = r.nextInt(Math.max(1, d.parts.get(part).size()));
+            boolean known = r.nextInt(4) > 0 && is && !d.parts.get(part).get(other).rest();
+            int pitch = known ? d.parts.get(part).get(other).pitch : r.nextInt(61);
+            CHECK.due("pitch", x.pitch(part, i, pitch), is ? t.pitch : -2);
+            t.pitch = pitch;
+            boolean slurred = r.nextInt(3) == 0;
+            CHECK.due("slur", x.slur(part, i, slurred ? 1 : 0), !is ? -2 : t.slurred ? 1 : 0);
+            t.slurred = slurred;
+        } else if (r.nextBoolean() && !d.men.isEmpty()) {
+            int man = r.nextInt(d.men.size());
+            Brute.Man m = d.men.get(man);
+            int quick = r.nextInt(4);
+            int air = 1 + r.nextInt(30);
+            int lips = r.nextInt(60);
+            CHECK.due("train 1", x.train(man, 1, quick), m.quick);
+            CHECK.due("train 2", x.train(man, 2, air), m.air);
+            CHECK.due("train 3", x.train(man, 3, lips), m.lips);
+            m.quick = quick;
+            m.air = air;
+            m.lips = lips;
+        } else if (!d.horns.isEmpty()) {
+            int horn = r.nextInt(d.horns.size());
+            Brute.Horn h = d.horns.get(horn);
+            int length = Math.max(100, Math.min(999, h.length + r.nextInt(9) - 4));
+            CHECK.due("tune", x.tune(horn, length), h.length);
+            h.length = length;
+        }
     }
 
     private static void compareDesk(LipsAndSlides x, Brute d) {
