@@ -1737,12 +1737,12 @@ public final class LipsAndSlides {
         int countSlurs(int what) {
             int number = 0;
             for (int s = 0; s + 1 < steps; s++) {
-                boolean moves = moveFrom(picked[s], picked[s + 1]) > 0;
+                boolean handsMove = moveFrom(picked[s], picked[s + 1]) > 0;
                 boolean samePartial = partial[picked[s]] == partial[picked[s + 1]];
                 boolean sameSetting = setting[picked[s]] == setting[picked[s + 1]];
-                boolean smear = tied[s] == 1 && samePartial && moves;
+                boolean smear = tied[s] == 1 && samePartial && handsMove;
                 boolean lips = tied[s] == 1 && sameSetting && !samePartial;
-                if (what == 0 && smear || what == 1 && lips || what == 2 && moves) {
+                if (what == 0 && smear || what == 1 && lips || what == 2 && handsMove) {
                     number++;
                 }
             }
